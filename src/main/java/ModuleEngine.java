@@ -3225,7 +3225,7 @@ public final class ModuleEngine {
 
         private void setLocal(int local, int source) {
             spillLocal(local);
-            if (source == fresh && size <= draft.length) {
+            if (source >= locals && source == fresh && size <= draft.length) {
                 draft[size - RECORD + TARGET] = local;
                 draft[size - RECORD + WEIGHT] += pending;
                 pending = 0;

@@ -2677,6 +2677,8 @@ public final class ModuleEngine {
                     useVariable(op);
                 } else if (op >= 40 && op <= 62) {
                     useMemory(op);
+                } else if (op >= 220) {
+                    doStretch(op);
                 } else if (op >= 63) {
                     doOther(op);
                 } else if (op == 16 || op == 17) {
@@ -2749,7 +2751,9 @@ public final class ModuleEngine {
                 machine.fail(trap);
                 return;
             }
-            put(Numbers.isFloating(op) ? Numbers.floating(op, x, y) : Numbers.whole(op, x, y), Numbers.given(signature));
+            long result = op <= 138 ? Numbers.whole(op, x, y)
+                : op <= 166 ? Numbers.floating(op, x, y) : Numbers.convert(op, x);
+            put(result, Numbers.given(signature));
         }
 
         private void useVariable(int op) {
@@ -2819,8 +2823,7 @@ public final class ModuleEngine {
         }
 
         private void doOther(int op) {
-            int count = op == 64 || op == 209 ? 1 : op == 227 ? 2 : 0;
-            if (lacks(count)) {
+            if (lacks(op == 64 || op == 209 ? 1 : 0)) {
                 return;
             }
             switch (op) {
@@ -2840,40 +2843,34 @@ public final class ModuleEngine {
                 case 210:
                     put(instance.functions[code[at + 1]], FUNCTION);
                     break;
-                case 227:
-                    top -= 2;
-                    doubt(kinds[top] != store.tableKind(instance.tables[code[at + 1]]) || kinds[top + 1] != I32);
-                    put(store.growTable(instance.tables[code[at + 1]], values[top + 1] & LOW, (int) values[top]), I32);
-                    break;
-                case 228:
-                    put(store.tableSize(instance.tables[code[at + 1]]), I32);
-                    break;
                 default:
-                    if (op >= 220) {
-                        doStretch(op);
-                    } else {
-                        put((long) code[at + 2] << 32 | code[at + 1] & LOW, code[at + 3]);
-                    }
+                    put((long) code[at + 2] << 32 | code[at + 1] & LOW, code[at + 3]);
                     break;
             }
         }
 
         private void doStretch(int op) {
-            int count = op == 221 || op == 225 ? 0 : 3;
+            int first = code[at + 1];
+            int count = op == 221 || op == 225 || op == 228 ? 0 : op == 227 ? 2 : 3;
             if (lacks(count)) {
                 return;
             }
             top -= count;
-            if (count == 0) {
-                store.stretch(instance, op, code[at + 1], code[at + 2], 0, 0, 0);
-                return;
-            }
-            int middle = op == 229 ? store.tableKind(instance.tables[code[at + 1]]) : I32;
-            doubt(kinds[top] != I32 || kinds[top + 1] != middle || kinds[top + 2] != I32);
-            int trap = store.stretch(instance, op, code[at + 1], code[at + 2],
-                values[top] & LOW, values[top + 1] & LOW, values[top + 2] & LOW);
-            if (trap != 0) {
-                machine.fail(trap);
+            if (op == 228) {
+                put(store.tableSize(instance.tables[first]), I32);
+            } else if (op == 227) {
+                doubt(kinds[top] != store.tableKind(instance.tables[first]) || kinds[top + 1] != I32);
+                put(store.growTable(instance.tables[first], values[top + 1] & LOW, (int) values[top]), I32);
+            } else if (count == 0) {
+                store.stretch(instance, op, first, 0, 0, 0, 0);
+            } else {
+                int middle = op == 229 ? store.tableKind(instance.tables[first]) : I32;
+                doubt(kinds[top] != I32 || kinds[top + 1] != middle || kinds[top + 2] != I32);
+                int trap = store.stretch(instance, op, first, code[at + 2],
+                    values[top] & LOW, values[top + 1] & LOW, values[top + 2] & LOW);
+                if (trap != 0) {
+                    machine.fail(trap);
+                }
             }
         }
 
@@ -3138,15 +3135,6 @@ public final class ModuleEngine {
             }
         }
 
-        private void spillLocal(int local) {
-            for (int i = 0; i < depth; i++) {
-                if (sources[i] == local) {
-                    emit(MOVE, locals + i, local, 0, 0, 0, 0);
-                    sources[i] = locals + i;
-                }
-            }
-        }
-
         private void translate(int record) {
             int[] flat = module.code;
             int op = flat[record];
@@ -3223,8 +3211,14 @@ public final class ModuleEngine {
             }
         }
 
+        /** Sets a local; operands that still stand for what it was are moved into their own registers ahead of that. */
         private void setLocal(int local, int source) {
-            spillLocal(local);
+            for (int i = 0; i < depth; i++) {
+                if (sources[i] == local) {
+                    emit(MOVE, locals + i, local, 0, 0, 0, 0);
+                    sources[i] = locals + i;
+                }
+            }
             if (source >= locals && source == fresh && size <= draft.length) {
                 draft[size - RECORD + TARGET] = local;
                 draft[size - RECORD + WEIGHT] += pending;
@@ -3369,7 +3363,9 @@ public final class ModuleEngine {
                 machine.fail(trap);
                 return;
             }
-            write(Numbers.isFloating(op) ? Numbers.floating(op, x, y) : Numbers.whole(op, x, y), Numbers.given(signature));
+            long result = op <= 138 ? Numbers.whole(op, x, y)
+                : op <= 166 ? Numbers.floating(op, x, y) : Numbers.convert(op, x);
+            write(result, Numbers.given(signature));
         }
 
         private void useMemory(int op) {
@@ -3551,6 +3547,10 @@ public final class ModuleEngine {
             0x100, 0x100, 0x111, 0x111, 0x111,
             0, 0, 0,
             0x120, 0x120, 0x130, 0x130, 0x121, 0x121, 0x131, 0x131};
+        private static final long SIGN = 0x80000000L;
+        private static final long WIDE_SIGN = Long.MIN_VALUE;
+        private static final long INFINITE = 0x7F800000L;
+        private static final long WIDE_INFINITE = 0x7FF0000000000000L;
         private static final int CEILING = 2;
         private static final int FLOOR = 3;
         private static final int NEAREST = 5;
@@ -3579,14 +3579,11 @@ public final class ModuleEngine {
             return op >= 109 && op <= 112 || op >= 127 && op <= 130 || op >= 168 && op <= 171 || op >= 174 && op <= 177;
         }
 
-        static boolean isFloating(int op) {
-            return op >= 139 && op <= 166;
-        }
-
         /** The trap of an operator that may have one, as Part V counts them; 0 when there is none. */
         static int trap(int op, long x, long y) {
             if (op >= 168) {
-                int reach = reach(op >= 174 ? op - 170 : op - 168, x);
+                int k = op >= 174 ? op - 170 : op - 168;
+                int reach = reach(k, x, wholePart((k & 2) != 0, x));
                 return reach == FITS ? 0 : reach == NO_NUMBER ? 4 : 3;
             }
             boolean small = op <= 112;
@@ -3599,7 +3596,7 @@ public final class ModuleEngine {
             return signedQuotient && least && divisor == -1 ? 3 : 0;
         }
 
-        /** The result of an operator that is not one of 139 .. 166. */
+        /** The result of an operator 69 .. 138. */
         static long whole(int op, long x, long y) {
             if (op <= 79) {
                 return compare(op - 69, (int) x, (int) y) ? 1 : 0;
@@ -3613,7 +3610,7 @@ public final class ModuleEngine {
             if (op <= 120) {
                 return whole32(op - 103, (int) x, (int) y);
             }
-            return op <= 138 ? whole64(op - 121, x, y) : convert(op, x);
+            return whole64(op - 121, x, y);
         }
 
         // Numbers of 32 bits come here with their sign, which keeps their order without sign, too.
@@ -3692,20 +3689,20 @@ public final class ModuleEngine {
             return Long.compareUnsigned(x - near * y, y) >= 0 ? near + 1 : near;
         }
 
-        private static long signBit(boolean wide) {
-            return wide ? Long.MIN_VALUE : 1L << 31;
-        }
-
         private static boolean minus(boolean wide, long x) {
-            return (x & signBit(wide)) != 0;
+            return wide ? x < 0 : (int) x < 0;
         }
 
         private static long withoutSign(boolean wide, long x) {
-            return x & signBit(wide) - 1;
+            return x & (wide ? Long.MAX_VALUE : Integer.MAX_VALUE);
+        }
+
+        private static long signed(boolean wide, boolean minus, long x) {
+            return minus ? x | (wide ? WIDE_SIGN : SIGN) : x;
         }
 
         private static long infinite(boolean wide) {
-            return wide ? 0x7FF0000000000000L : 0x7F800000L;
+            return wide ? WIDE_INFINITE : INFINITE;
         }
 
         private static long none(boolean wide) {
@@ -3713,24 +3710,20 @@ public final class ModuleEngine {
         }
 
         private static boolean isNone(boolean wide, long x) {
-            return withoutSign(wide, x) > infinite(wide);
-        }
-
-        private static long signed(boolean wide, boolean minus, long x) {
-            return minus ? x | signBit(wide) : x;
+            return wide ? (x & Long.MAX_VALUE) > WIDE_INFINITE : (x & Integer.MAX_VALUE) > INFINITE;
         }
 
         /** m of a number that is neither INFINITE nor NONE. */
         private static long significand(boolean wide, long x) {
             long hidden = wide ? 1L << 52 : 1L << 23;
-            long fraction = x & hidden - 1;
-            return withoutSign(wide, x) < hidden ? fraction : fraction | hidden;
+            boolean small = wide ? (x & WIDE_INFINITE) == 0 : (x & INFINITE) == 0;
+            return small ? x & hidden - 1 : x & hidden - 1 | hidden;
         }
 
         /** q of such a number. */
         private static int power(boolean wide, long x) {
-            int exponent = (int) (withoutSign(wide, x) >>> (wide ? 52 : 23));
-            return Math.max(exponent, 1) - (wide ? 1075 : 150);
+            int exponent = (int) (wide ? (x & WIDE_INFINITE) >>> 52 : (x & INFINITE) >>> 23);
+            return (exponent == 0 ? 1 : exponent) - (wide ? 1075 : 150);
         }
 
         private static long shiftedRight(long m, int by) {
@@ -3772,11 +3765,12 @@ public final class ModuleEngine {
         static long floating(int op, long left, long right) {
             boolean wide = op >= 153;
             int k = wide ? op - 153 : op - 139;
+            long sign = wide ? WIDE_SIGN : SIGN;
             long x = wide ? left : left & LOW;
             long y = wide ? right : right & LOW;
             switch (k) {
                 case 0: return withoutSign(wide, x);
-                case 1: return x ^ signBit(wide);
+                case 1: return x ^ sign;
                 case 13: return signed(wide, minus(wide, y), withoutSign(wide, x));
                 default: break;
             }
@@ -3786,7 +3780,7 @@ public final class ModuleEngine {
             switch (k) {
                 case 6: return root(wide, x);
                 case 7: return sum(wide, x, y);
-                case 8: return sum(wide, x, y ^ signBit(wide));
+                case 8: return sum(wide, x, y ^ sign);
                 case 9: return product(wide, x, y);
                 case 10: return ratio(wide, x, y);
                 case 11: return order(wide, x) <= order(wide, y) ? x : y;
@@ -3944,7 +3938,8 @@ public final class ModuleEngine {
             return rounded(wide, false, rest == 0 ? result : result | 1, q / 2 - 29);
         }
 
-        private static long convert(int op, long x) {
+        /** The result of an operator 167 .. 207. */
+        static long convert(int op, long x) {
             switch (op) {
                 case 168: case 169: case 170: case 171: return towardsZero(op - 168, x);
                 case 172: case 196: return (int) x;
@@ -3993,39 +3988,40 @@ public final class ModuleEngine {
             return q >= 0 ? significand(wide, x) << q : significand(wide, x) >>> -q;
         }
 
-        /** Of the eight numbers k: bit 0 tells those without sign, bit 1 from type 3, bit 2 to type 1. */
-        private static int reach(int k, long given) {
+        /**
+         * Whether a number with that whole part is there in the type that it goes to. Of the eight k, bit 0 tells
+         * those without sign, bit 1 those from type 3, bit 2 those to type 1.
+         */
+        private static int reach(int k, long x, long part) {
             boolean wide = (k & 2) != 0;
-            long x = wide ? given : given & LOW;
             if (isNone(wide, x)) {
                 return NO_NUMBER;
             }
             int beyond = minus(wide, x) ? BELOW : ABOVE;
-            if (withoutSign(wide, x) == infinite(wide)
-                    || 64 - Long.numberOfLeadingZeros(significand(wide, x)) + power(wide, x) > 64) {
+            int length = 64 - Long.numberOfLeadingZeros(significand(wide, x)) + power(wide, x);
+            if (withoutSign(wide, x) == infinite(wide) || length > 64) {
                 return beyond;
             }
-            long size = wholePart(wide, x);
             boolean large = k >= 4;
             if ((k & 1) != 0) {
-                boolean there = size == 0 || beyond == ABOVE && (large || size >>> 32 == 0);
+                boolean there = part == 0 || beyond == ABOVE && (large || part >>> 32 == 0);
                 return there ? FITS : beyond;
             }
             long bound = large ? Long.MIN_VALUE : 1L << 31;
-            int order = Long.compareUnsigned(size, bound);
+            int order = Long.compareUnsigned(part, bound);
             return order < 0 || order == 0 && beyond == BELOW ? FITS : beyond;
         }
 
-        private static long towardsZero(int k, long given) {
+        private static long towardsZero(int k, long x) {
             boolean wide = (k & 2) != 0;
             boolean large = k >= 4;
             boolean withSign = (k & 1) == 0;
-            long x = wide ? given : given & LOW;
-            switch (reach(k, given)) {
+            long part = wholePart(wide, x);
+            switch (reach(k, x, part)) {
                 case NO_NUMBER: return 0;
                 case BELOW: return !withSign ? 0 : large ? Long.MIN_VALUE : Integer.MIN_VALUE;
                 case ABOVE: return !withSign ? -1 : large ? Long.MAX_VALUE : Integer.MAX_VALUE;
-                default: return minus(wide, x) ? -wholePart(wide, x) : wholePart(wide, x);
+                default: return minus(wide, x) ? -part : part;
             }
         }
     }

@@ -43,7 +43,6 @@ public final class ModuleEngine {
     private static final int KIND_GLOBAL = 3;
     private static final int KIND_HOST = 4;
 
-    private static final int NOTHING = 0;
     private static final int RUNNING = 1;
     private static final int ENDED = 2;
     private static final int TRAPPED = 3;
@@ -3035,7 +3034,7 @@ public final class ModuleEngine {
         /** Notes how many operands there are at each place that is jumped to. */
         private void findTargets(int start, int end) {
             int[] flat = module.code;
-            Arrays.fill(depthAt, NONE);
+            Arrays.fill(depthAt, 0, (end - start) / Checker.RECORD, NONE);
             for (int i = start; i < end; i += Checker.RECORD) {
                 if (isJump(flat[i])) {
                     depthAt[(flat[i + 1] - start) / Checker.RECORD] = types.lengths[flat[i + 2]] + flat[i + 3];

@@ -2455,8 +2455,8 @@ public final class ModuleEngine {
         Machine(Store store, Types types) {
             this.store = store;
             this.types = types;
-            stack = new Stack(store, types, values, kinds);
-            registers = new Registers(types, values, kinds);
+            stack = new Stack(store, types);
+            registers = new Registers(types);
             asked = -1;
         }
 
@@ -2632,9 +2632,9 @@ public final class ModuleEngine {
 
         private final Store store;
         private final Types types;
-        private final long[] values;
-        private final byte[] kinds;
         private Machine machine;
+        private long[] values;
+        private byte[] kinds;
         private Instance instance;
         private int[] code;
         private int at;
@@ -2643,11 +2643,9 @@ public final class ModuleEngine {
         private int floor;
         private int top;
 
-        Stack(Store store, Types types, long[] values, byte[] kinds) {
+        Stack(Store store, Types types) {
             this.store = store;
             this.types = types;
-            this.values = values;
-            this.kinds = kinds;
         }
 
         /** Works on the innermost frame until it stops, another frame is innermost, or no step is left: how many are. */
@@ -2694,6 +2692,8 @@ public final class ModuleEngine {
 
         private void open(Machine owner, Instance ofFrame, int body) {
             machine = owner;
+            values = owner.values;
+            kinds = owner.kinds;
             instance = ofFrame;
             code = ofFrame.module.code;
             int frame = machine.innermost();
@@ -2977,8 +2977,6 @@ public final class ModuleEngine {
         private static final int NONE = -1;
 
         private final Types types;
-        private final long[] values;
-        private final byte[] kinds;
         private final int[] draft = new int[ROOM * RECORD];
         private final int[] depthAt = new int[ROOM];
         private final int[] placeAt = new int[ROOM];
@@ -2991,16 +2989,16 @@ public final class ModuleEngine {
         private int fresh;
         private boolean live;
         private Machine machine;
+        private long[] values;
+        private byte[] kinds;
         private Instance instance;
         private int[] code;
         private int at;
         private int next;
         private int base;
 
-        Registers(Types types, long[] values, byte[] kinds) {
+        Registers(Types types) {
             this.types = types;
-            this.values = values;
-            this.kinds = kinds;
         }
 
         /** Makes code for registers of a body, unless that was done: whether there is such code. */
@@ -3315,6 +3313,8 @@ public final class ModuleEngine {
 
         private void open(Machine owner, Instance ofFrame, int body) {
             machine = owner;
+            values = owner.values;
+            kinds = owner.kinds;
             instance = ofFrame;
             module = ofFrame.module;
             code = module.registers[body / Module.BODY_WIDTH];

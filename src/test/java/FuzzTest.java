@@ -27,7 +27,7 @@ public final class FuzzTest {
 
   public static void main(String[] args) {
     long from = args.length > 0 ? Long.parseLong(args[0]) : 0;
-    long count = args.length > 1 ? Long.parseLong(args[1]) : 4000;
+    long count = args.length > 1 ? Long.parseLong(args[1]) : 10000;
     for (long s = from; s < from + count && wrong < 5; s++) new FuzzTest(s).play();
     System.out.println(accepted + " modules accepted, " + refused + " refused, " + stepsDone + " steps");
     System.out.println("faults " + Arrays.toString(faults));
@@ -94,7 +94,7 @@ public final class FuzzTest {
     for (int m = 0; m < modules && !bad; m++) {
       Generator g = new Generator(random.nextLong());
       g.wild = chance(20);
-      byte[] bytes = g.module();
+      byte[] bytes = chance(40) ? g.loose() : g.module();
       if (chance(30)) bytes = mutate(bytes);
       if (bytes.length > 5000) continue;
       feed(bytes);

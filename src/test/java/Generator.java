@@ -168,6 +168,113 @@ final class Generator {
     return out.toByteArray();
   }
 
+  /** Sections of small rows with small numbers, which go together by chance only. */
+  byte[] loose() {
+    Out out = new Out();
+    out.b(0, 97, 115, 109, 1, 0, 0, 0);
+    int[] order = {1, 2, 3, 4, 5, 6, 7, 8, 9, 12, 10, 11};
+    int bodies = 0;
+    int data = pick(3);
+    for (int id : order) {
+      if (chance(4)) section(out, 0, new Out().name("x"));
+      if (chance(id == 1 ? 5 : 40)) continue;
+      int rows = id == 10 ? chance(95) ? bodies : pick(3) : id == 11 ? data : 1 + pick(2);
+      if (chance(1)) rows = 60 + pick(10);
+      if (id == 3) bodies = rows;
+      Out x = new Out();
+      if (id != 8 && id != 12) x.u(rows);
+      for (int i = 0; i < rows; i++) looseRow(x, id, i);
+      if (id == 8) x = new Out().u(pick(3));
+      if (id == 12) x = new Out().u(chance(90) ? data : pick(3));
+      section(out, id, x);
+    }
+    return out.toByteArray();
+  }
+
+  private void looseRow(Out x, int id, int i) {
+    switch (id) {
+      case 1 -> {
+        x.b(96);
+        row(x, kindRow(chance(2) ? 20 : chance(50) ? 0 : 1));
+        row(x, kindRow(chance(70) ? 0 : 1));
+      }
+      case 2 -> {
+        int kind = pick(4);
+        x.name("").name("").b(kind);
+        if (kind == 0) x.u(chance(85) ? 0 : 1);
+        if (kind == 1) x.b(chance(70) ? 112 : 111);
+        if (kind == 1 || kind == 2) looseLimits(x);
+        if (kind == 3) x.b(chance(60) ? 127 : kind(true), chance(80) ? 0 : 1);
+      }
+      case 3 -> x.u(chance(85) ? 0 : 1);
+      case 4 -> {
+        x.b(chance(70) ? 112 : 111);
+        looseLimits(x);
+      }
+      case 5 -> looseLimits(x);
+      case 6 -> {
+        int kind = kind(true);
+        x.b(kind, pick(2));
+        looseConstant(x, kind);
+      }
+      case 7 -> x.name(chance(90) ? "n" + i : "n").b(pick(4)).u(chance(80) ? 0 : pick(3));
+      case 9 -> looseElement(x);
+      case 10 -> {
+        Out body = new Out();
+        if (chance(95)) body.b(0);
+        else body.u(2).u(chance(50) ? 0xffffffffL : 999).b(127).u(pick(3)).b(126);
+        if (chance(30)) body.b(210).u(pick(3)).b(26);
+        if (chance(20)) body.b(35).u(pick(2)).b(26);
+        if (chance(10)) body.b(65, 0, 65, 0, 65, 0, 252).u(8 + pick(10)).u(pick(2)).b(pick(2));
+        if (chance(10)) body.b(16).u(pick(2));
+        body.b(11);
+        x.u(body.size()).raw(body);
+      }
+      default -> {
+        int m = chance(98) ? pick(3) : 3;
+        x.u(m);
+        if (m == 2) x.u(chance(90) ? 0 : 1);
+        if (m != 1) looseConstant(x, 127);
+        x.u(2).b(7, 8);
+      }
+    }
+  }
+
+  private void looseLimits(Out x) {
+    long[] some = {0, 0, 1, 1, 2, 3, 65536, 65537, 0xffffffffL};
+    int last = chance(90) ? 6 : 9;
+    if (chance(60)) x.b(0).u(some[pick(last)]);
+    else x.b(1).u(some[pick(last)]).u(some[pick(last)]);
+  }
+
+  private void looseElement(Out x) {
+    int m = chance(98) ? pick(8) : 8;
+    x.u(m);
+    if ((m & 1) == 0 && (m & 2) != 0) x.u(chance(80) ? 0 : 1);
+    if ((m & 1) == 0) looseConstant(x, 127);
+    int kind = chance(80) ? 112 : 111;
+    if (m != 0 && m != 4) x.b((m & 4) == 0 ? chance(98) ? 0 : 1 : kind);
+    int items = pick(3);
+    x.u(items);
+    for (int i = 0; i < items; i++) {
+      if ((m & 4) == 0) x.u(chance(85) ? 0 : pick(3));
+      else looseConstant(x, m == 4 ? 112 : kind);
+    }
+  }
+
+  private void looseConstant(Out x, int kind) {
+    int how = pick(20);
+    if (how == 0) x.b(1);
+    if (how == 1) x.b(35).u(pick(2));
+    else if (how == 2) x.b(210).u(pick(3));
+    else if (how == 3) writeConstant(x, kind(true), false);
+    else if (kind == 127) x.b(65).s(pick(3));
+    else writeConstant(x, kind, false);
+    if (how == 4) x.b(210).u(pick(3));
+    if (how == 5) x.b(2, 64, 11);
+    x.b(11);
+  }
+
   private void writeImports(Out out) {
     int n = chance(60) ? pick(4) : 0;
     Out x = new Out().u(n);

@@ -1,4 +1,5 @@
 import java.io.ByteArrayOutputStream;
+import java.util.stream.LongStream;
 
 /** What the tests share: bytes of modules by hand, and the comparing of answers. */
 final class Kit {
@@ -11,7 +12,22 @@ final class Kit {
   private static int wrong;
   private static int looked;
 
+  static final byte[] REFUSED = refusedModule();
+
   private Kit() { }
+
+  private static byte[] refusedModule() {
+    int n = 50;
+    byte[] exports = {};
+    for (int i = 0; i < n; i++) exports = bytes(exports, 1, 32 + i, i % 4, 0);
+    return module(section(1, 2, type(kinds(), kinds()), type(kinds(I64, I64), kinds(I64))),
+      section(2, 4, "", "", 0, 0, "", "", 1, FUNC, 0, 0, "", "", 2, 0, 1, "", "", 3, I32, 0),
+      section(3, (long) n, times(n, 0)), section(4, (long) n, times(n / 2, FUNC, 0, 3, OUT, 1, 2, 5)),
+      section(6, (long) n, times(n, I32, 1, 65, 0, 11)), section(7, (long) n, exports), section(8, 0),
+      section(9, (long) n, times(n / 2, 1, 0, 1, 1, 5, OUT, 1, 208, OUT, 11)), section(12, (long) n),
+      section(10, (long) n, times(n - 1, bodyWith(bytes(1, 9, I64))), body(65, 0, 65, 0, 2, 64, 3, 64, 65, 0, 0, 12, 9, 11, 11)),
+      section(11, (long) n, times(n, 1, 2, 7, 8)));
+  }
 
   static void due(String what, long got, long want) {
     looked++;
@@ -145,11 +161,16 @@ final class Kit {
     return e;
   }
 
+  /** What a module has for a fault, read first of all, and behind a large one that was refused in the midst of its last body. */
   static void fault(String what, byte[] m, int fault, int place) {
     ModuleEngine e = new ModuleEngine();
-    due(what + ": module", load(e, m), fault == 0 ? 0 : -1);
-    due(what + ": fault", e.fault(0), fault);
-    due(what + ": place", e.fault(1), fault == 0 ? -1 : place);
+    for (int i = 0; i < 2; i++) {
+      due(what + ": module", load(e, m), fault == 0 ? 0 : -1);
+      due(what + ": fault", e.fault(0), fault);
+      due(what + ": place", e.fault(1), fault == 0 ? -1 : place);
+      e = new ModuleEngine();
+      load(e, REFUSED);
+    }
     Reference r = new Reference();
     for (int i = 0; i < m.length; i += 20) {
       int[] v = new int[5];
@@ -172,8 +193,8 @@ final class Kit {
 
   /** The result of a function with this code, on both machines, and its steps. */
   static void result(String what, int[] results, Object code, long want, int steps) {
-    ModuleEngine e = engine(simple(kinds(), results, code));
     for (int tier = 0; tier < 2; tier++) {
+      ModuleEngine e = engine(simple(kinds(), results, code));
       e.tier(tier);
       run(e, 0, 0);
       due(what + ": state, tier " + tier, e.state(0), 2);
@@ -185,13 +206,63 @@ final class Kit {
 
   /** The trap of a function with this code, on both machines, and its steps. */
   static void trap(String what, Object code, int trap, int steps) {
-    ModuleEngine e = engine(simple(kinds(), kinds(), code));
     for (int tier = 0; tier < 2; tier++) {
+      ModuleEngine e = engine(simple(kinds(), kinds(), code));
       e.tier(tier);
       run(e, 0, 0);
       due(what + ": state, tier " + tier, e.state(0), 3);
       due(what + ": trap, tier " + tier, e.state(1), trap);
       due(what + ": steps, tier " + tier, e.state(2), steps);
+    }
+  }
+
+  interface Setup { ModuleEngine get(); }
+
+  interface Call { long on(ModuleEngine e); }
+
+  static long bit(boolean b) { return b ? 1 : 0; }
+
+  /** A call that is refused with this answer, and after which all is as it is without that call. */
+  static void refused(String what, Setup setup, Call call, long want) {
+    ModuleEngine with = setup.get();
+    due(what, call.on(with), want);
+    long[] seen = look(with);
+    long[] before = look(setup.get());
+    due(what + " does nothing: how much is seen", seen.length, before.length);
+    for (int i = 0; i < seen.length; i++) due(what + " does nothing: look " + i, seen[i], before[i]);
+  }
+
+  /** All that can be seen of an engine: first without changing it, then by calls that show what else it keeps. */
+  static long[] look(ModuleEngine e) {
+    LongStream.Builder out = LongStream.builder();
+    lookStill(e, out);
+    out.add(e.tier(3)).add(e.argument(5)).add(e.offer(-1, 3)).add(e.feed(0x0061736d, 0x01000000, 0, 0, 0));
+    out.add(e.make(0)).add(e.offer(-1, 3)).add(e.run(3)).add(bit(e.answer()));
+    lookStill(e, out);
+    out.add(bit(e.give())).add(e.argument(6)).add(e.module(e.state(10)));
+    lookStill(e, out);
+    return out.build().toArray();
+  }
+
+  /** What can be seen of an engine without changing it, but for state(11). */
+  static long[] seen(ModuleEngine e) {
+    LongStream.Builder out = LongStream.builder();
+    lookStill(e, out);
+    long[] all = out.build().toArray();
+    all[12] = 0;
+    return all;
+  }
+
+  private static void lookStill(ModuleEngine e, LongStream.Builder out) {
+    for (int w = -1; w < 14; w++) out.add(e.state(w));
+    for (int w = -1; w < 3; w++) out.add(e.fault(w));
+    for (int k = -1; k < 18; k++) out.add(e.value(k));
+    for (int i = 0; i < Math.min(2, e.state(6)); i++) {
+      for (int k = 0; k < 14; k++) {
+        for (int w = 0; w < 6; w++) out.add(e.export(i, k, w));
+        out.add(e.global(i, k));
+        for (int a = 0; a < 5; a++) out.add(e.table(i, k, a)).add(e.memory(i, k, a)).add(e.memory(i, k, 65534 + a));
+      }
     }
   }
 }

@@ -45,6 +45,12 @@ public final class EdgesOfRunningTest {
     changingOverPerFunction();
     changingOverUncounted();
     asked();
+    deadCode();
+    ahead();
+    operandsBelow();
+    severalFunctions();
+    acrossInstances();
+    mixedTypes();
     Kit.finish();
   }
 
@@ -956,5 +962,139 @@ public final class EdgesOfRunningTest {
         Kit.due("no steps by that", e.state(2), k == 0 ? 8 : 0);
       }
     }
+  }
+
+  /** What lies in the dead is never done, whatever it branches to. */
+  private static void deadCode() {
+    byte[] inner = Kit.bytes(2, 64, 32, 0, 13, 0, 12, 1, 65, 7, 33, 0, 2, 64, 65, 1, 13, 1, 12, 2, 11, 3, 64, 12, 0, 11, 11, 32, 0);
+    ends("a block in the dead, not come to", Kit.simple(INT, INT, 2, 64, inner, 33, 0, 11, 32, 0), new long[] {0}, 2, 0, 4, 0);
+    ends("a block in the dead, gone round", Kit.simple(INT, INT, 2, 64, inner, 33, 0, 11, 32, 0), new long[] {6}, 2, 0, 5, 6);
+    byte[] both = Kit.bytes(32, 0, 4, 64, 12, 0, 65, 1, 4, 64, 1, 5, 65, 9, 33, 0, 11, 5, 65, 8, 33, 0, 15, 2, 64, 65, 5, 33, 0, 11, 11, 65, 3, 33, 0);
+    ends("a 4 in the dead, behind 12", Kit.simple(INT, NO, both), new long[] {1}, 2, 0, 5);
+    ends("a block in the dead, behind 15", Kit.simple(INT, NO, both), new long[] {0}, 2, 0, 5);
+    ends("operators in the dead, behind a block", Kit.simple(NO, NO, 15, 2, 64, 65, 1, 13, 0, 11, 106, 26), new long[0], 2, 0, 1);
+    byte[] unknown = Kit.bytes(65, 7, 15, 2, 64, 65, 1, 13, 0, 11, 2, 0, 26, 65, 1, 11, 26);
+    ends("a block in the dead whose parameter is not there", Kit.simple(INT, INT, unknown, 0), new long[] {3}, 2, 0, 2, 7);
+    byte[] looped = Kit.bytes(2, 127, 65, 7, 12, 0, 3, 0, 32, 0, 13, 0, 26, 65, 1, 11, 27, 11);
+    ends("a loop in the dead whose parameter is not there", Kit.simple(INT, INT, looped), new long[] {3}, 2, 0, 2, 7);
+    byte[] fives = Kit.bytes(32, 0, 4, 64, 32, 0, 65, 1, 107, 4, 64, 65, 20, 33, 0, 5, 65, 30, 33, 0, 11, 32, 0, 65, 1, 106, 33, 0, 5, 65, 40, 33, 0, 11, 32, 0);
+    ends("a 5 goes to its own end: the first part", Kit.simple(INT, INT, fives), new long[] {2}, 2, 0, 13, 21);
+    ends("the second part", Kit.simple(INT, INT, fives), new long[] {1}, 2, 0, 13, 31);
+    ends("the outer second part", Kit.simple(INT, INT, fives), new long[] {0}, 2, 0, 5, 40);
+  }
+
+  /** A local that is set behind what TRAPS, or grows, or asks, is set in a step of its own. */
+  private static void ahead() {
+    for (int set = 33; set <= 34; set++) {
+      byte[] behind = set == 33 ? Kit.bytes(33, 0) : Kit.bytes(34, 0, 26);
+      ends("a load that traps", Kit.simple(INT, NO, i32(-1), 40, 0, 0, behind), new long[] {1}, 3, 5, 2);
+      ends("a quotient that traps", Kit.simple(INT, NO, 65, 1, 65, 0, 109, behind), new long[] {1}, 3, 2, 3);
+      ends("a number that is not there", Kit.simple(INT, NO, Kit.constant(125, 0x7f800000L), 168, behind), new long[] {1}, 3, 3, 2);
+      ends("a table's entry", Kit.simpleWith(new int[] {112}, NO, Kit.bytes(0), 65, 9, 37, 0, behind), new long[] {-1}, 3, 6, 2);
+      ends("growth, which is seen at once", Kit.simple(INT, NO, 65, 1, 64, 0, behind, 1), new long[] {1}, 2, 0, set == 33 ? 4 : 5);
+      ends("growth of a table", Kit.simple(INT, NO, 208, 112, 65, 1, 252, 15, 0, behind, 1), new long[] {1}, 2, 0, set == 33 ? 5 : 6);
+      ends("sizes", Kit.simple(INT, NO, 63, 0, behind, 252, 16, 0, behind), new long[] {1}, 2, 0, set == 33 ? 4 : 6);
+      ends("an operator", Kit.simple(INT, INT, 32, 0, 65, 5, 106, behind, 32, 0, 69, behind, 32, 0), new long[] {1}, 2, 0, set == 33 ? 8 : 10, 0);
+      ends("a choice", Kit.simple(INT, INT, 65, 5, 65, 6, 32, 0, 27, behind, 32, 0), new long[] {1}, 2, 0, set == 33 ? 6 : 7, 5);
+    }
+    byte[] global = Kit.module(Kit.section(1, 1, Kit.type(INT, INT)), Kit.section(3, 1, 0), Kit.section(6, 1, 127, 1, 65, 9, 11), Kit.section(7, 2, "f", 0, 0, "g", 3, 0),
+      Kit.section(10, 1, Kit.body(35, 0, 33, 0, 65, 4, 36, 0, 35, 0, 32, 0, 65, 2, 36, 0, 106)));
+    ends("a global that is put, and then set", global, new long[] {1}, 2, 0, 9, 13);
+  }
+
+  /** What lies below stays as it is: constants and locals that wait while ways part and meet, and calls. */
+  private static void operandsBelow() {
+    byte[] parted = Kit.bytes(65, 1, 32, 0, 65, 3, 32, 0, 4, 64, 65, 50, 33, 0, 5, 1, 11, 107, 107, 32, 0, 107);
+    ends("below a 4 that is taken", Kit.simple(INT, INT, parted), new long[] {7}, 2, 0, 11, (1 - (7 - 3) - 50) & 0xffffffffL);
+    ends("below a 4 that is not", Kit.simple(INT, INT, parted), new long[] {0}, 2, 0, 10, (1 - (0 - 3)) & 0xffffffffL);
+    byte[] branch = Kit.bytes(65, 1, 32, 0, 65, 3, 2, 64, 32, 0, 13, 0, 65, 50, 33, 0, 11, 107, 107, 32, 0, 107);
+    ends("below a 13 that is taken", Kit.simple(INT, INT, branch), new long[] {7}, 2, 0, 9, (1 - (7 - 3) - 7) & 0xffffffffL);
+    ends("below a 13 that is not", Kit.simple(INT, INT, branch), new long[] {0}, 2, 0, 11, (1 - (0 - 3) - 50) & 0xffffffffL);
+    byte[] row = Kit.bytes(65, 1, 32, 0, 65, 3, 2, 64, 2, 64, 32, 0, 14, 1, 0, 1, 11, 65, 50, 33, 0, 11, 107, 107, 32, 0, 107);
+    ends("below a 14, the first", Kit.simple(INT, INT, row), new long[] {0}, 2, 0, 11, (1 - (0 - 3) - 50) & 0xffffffffL);
+    ends("below a 14, the last", Kit.simple(INT, INT, row), new long[] {7}, 2, 0, 9, (1 - (7 - 3) - 7) & 0xffffffffL);
+    byte[] m = Kit.module(Kit.section(1, 2, Kit.type(INT, INT), Kit.type(new int[] {127, 127}, new int[] {127, 127})), Kit.section(3, 2, 0, 1),
+      Kit.section(4, 1, 112, 0, 1), Kit.section(7, 1, "f", 0, 0), Kit.section(9, 1, 0, 65, 0, 11, 1, 1),
+      Kit.section(10, 2, Kit.body(65, 60, 32, 0, 65, 1, 65, 2, 16, 1, 32, 0, 65, 0, 17, 1, 0, 107, 107, 107, 107), Kit.body(32, 1, 32, 0, 65, 9, 33, 0, 65, 8, 33, 1)));
+    ends("below a call by 16 and one by 17", m, new long[] {5}, 2, 0, 24, (60 - (5 - (2 - (5 - 1)))) & 0xffffffffL);
+  }
+
+  private static byte[] counting(int by) { return Kit.body(32, 0, 4, 64, 3, 64, 32, 0, 65, by, 107, 34, 0, 13, 0, 11, 5, 65, 7, 33, 0, 11, 32, 0, 65, by, 106); }
+
+  /** Functions one behind the other, each with branches of its own; some end in the dead, with operands. */
+  private static void severalFunctions() {
+    byte[] dead = Kit.body(65, 1, 32, 0, 32, 0, 4, 64, 65, 3, 15, 11, 0);
+    for (int first = 0; first < 5; first++) {
+      byte[] m = Kit.module(Kit.section(1, 1, Kit.type(INT, INT)), Kit.section(3, 5, Kit.times(5, 0)), Kit.section(7, 5, "a", 0, first, "b", 0, 0, "c", 0, 1, "d", 0, 2, "e", 0, 4),
+        Kit.section(10, 5, dead, counting(1), dead, counting(2), Kit.body(32, 0, 16, 1, 32, 0, 16, 3, 106)));
+      if (first == 1) ends("the second", m, new long[] {6}, 2, 0, 2 + 6 * 5 + 3, 1);
+      else if (first == 3) ends("the fourth", m, new long[] {6}, 2, 0, 2 + 3 * 5 + 3, 2);
+      else if (first == 4) ends("the fifth", m, new long[] {6}, 2, 0, 5 + 35 + 20, 3);
+      else ends("the dead ones", m, new long[] {6}, 2, 0, 6, 3);
+      for (int tier = 1; tier < 3; tier++) {
+        ModuleEngine e = Kit.engine(m);
+        e.tier(tier);
+        for (int turn = 0; turn < 3; turn++) {
+          Kit.run(e, 0, 1, 5);
+          Kit.due("a dead one that is left", e.value(0), 3);
+          Kit.run(e, 0, 1, 0);
+          Kit.due("a dead one that traps", e.state(0), 3);
+          Kit.run(e, 0, 2, 4);
+          Kit.due("one behind it", e.value(0), 1);
+          Kit.due("its steps", e.state(2), 2 + 4 * 5 + 3);
+          Kit.run(e, 0, 3, 9);
+          Kit.due("a dead one again", e.value(0), 3);
+          Kit.run(e, 0, 4, 4);
+          Kit.due("one that calls two", e.value(0), 3);
+          Kit.due("no other types", e.state(12), 0);
+        }
+      }
+    }
+  }
+
+  /** A function of another instance has that instance's constants, globals, memory and tables. */
+  private static void acrossInstances() {
+    byte[] callee = Kit.module(Kit.section(1, 1, Kit.type(INT, INT)), Kit.section(3, 1, 0), Kit.section(5, 1, 0, 1), Kit.section(6, 1, 127, 1, 65, 5, 11),
+      Kit.section(7, 2, "f", 0, 0, "m", 2, 0), Kit.section(10, 1, Kit.body(65, 3, 32, 0, 58, 0, 0, 35, 0, 65, 1, 106, 36, 0, 35, 0, 65, 22, 106)));
+    byte[] caller = Kit.module(Kit.section(1, 1, Kit.type(INT, INT)), Kit.section(2, 1, "", "", 0, 0), Kit.section(3, 1, 0), Kit.section(5, 1, 0, 1),
+      Kit.section(6, 1, 127, 1, 65, 50, 11), Kit.section(7, 2, "f", 0, 1, "m", 2, 0),
+      Kit.section(10, 1, Kit.body(1, 1, 1, 1, 1, 65, 11, 32, 0, 16, 0, 65, 33, 106, 107, 35, 0, 106, 65, 4, 65, 44, 58, 0, 0)));
+    for (int tier = 0; tier < 3; tier++) {
+      ModuleEngine e = new ModuleEngine();
+      Kit.load(e, callee);
+      Kit.load(e, caller);
+      e.make(0);
+      e.offer(0, 0);
+      e.make(1);
+      e.tier(tier);
+      for (int turn = 0; turn < 4; turn++) {
+        e.argument(9 + turn);
+        e.call(1, 0);
+        for (int i = 0; i < 100 && e.state(0) == 1; i++) e.run(1 + turn);
+        Kit.due("value, tier " + tier, e.value(0), (11 - (6 + turn + 22 + 33) + 50) & 0xffffffffL);
+        Kit.due("steps", e.state(2), 5 + 3 + 10 + 5 + 3);
+        Kit.due("the callee's memory", e.memory(0, 1, 3), 9 + turn);
+        Kit.due("not the caller's", e.memory(1, 1, 3), 0);
+        Kit.due("the caller's memory", e.memory(1, 1, 4), 44);
+        Kit.due("not the callee's", e.memory(0, 1, 4), 0);
+      }
+    }
+  }
+
+  /** Values of several types, one upon another, moved by branches and set to locals: never of other types than checked. */
+  private static void mixedTypes() {
+    byte[] locals = Kit.bytes(4, 1, 127, 1, 126, 1, 125, 1, 124);
+    byte[] floats = Kit.bytes(67, 0, 0, 128, 63);
+    byte[] moved = Kit.bytes(2, 126, floats, 65, 1, 66, 5, 12, 0, 11, 66, 1, 124, 33, 1, 2, 125, 65, 1, 66, 2, floats, 65, 1, 13, 0, 26, 26, 26, floats, 11, floats, 146, 33, 2,
+      66, 3, floats, 65, 7, 33, 0, 33, 2, 33, 1, 66, 4, 65, 1, 34, 0, 26, 33, 1, 32, 1, 32, 0, 172, 124);
+    ends("moved and set", Kit.simpleWith(NO, LONG, locals, moved), new long[0], 2, 0, 30, 5);
+    byte[] loop = Kit.bytes(65, 3, 33, 0, 66, 1, 3, 64, 66, 7, 32, 0, 65, 1, 107, 34, 0, 13, 0, 26, 11, 26, 32, 0);
+    ends("a loop that drops what lies above its height", Kit.simpleWith(NO, INT, locals, loop), new long[0], 2, 0, 3 + 3 * 6 + 3, 0);
+    byte[] row = Kit.bytes(2, 126, 2, 126, floats, 65, 9, 66, 5, 65, 1, 14, 1, 0, 1, 11, 66, 1, 124, 11, 66, 2, 124);
+    ends("14 over others", Kit.simpleWith(NO, LONG, locals, row), new long[0], 2, 0, 7, 7);
+    int[] sixteen = new int[16];
+    Arrays.fill(sixteen, 126);
+    byte[] wide = Kit.simple(sixteen, new int[] {112, 111}, 208, 112, 208, 111);
+    ends("16 parameters, and references as results", wide, new long[] {7, 7, 7, 7, 7, 7, 7, 7, 7, 7, 7, 7, 7, 7, 7, -9}, 2, 0, 2, -1, -1);
   }
 }

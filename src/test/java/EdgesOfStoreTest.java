@@ -51,9 +51,14 @@ public final class EdgesOfStoreTest {
       Kit.section(10, (long) functions, Kit.times(functions, 2, 0, 11)));
   }
 
+  /** An engine with these modules, and one that was refused ahead of each and behind all of them. */
   private static ModuleEngine loaded(byte[]... modules) {
     ModuleEngine e = new ModuleEngine();
-    for (int i = 0; i < modules.length; i++) Kit.due("module " + i, Kit.load(e, modules[i]), i);
+    for (int i = 0; i < modules.length; i++) {
+      Kit.load(e, Kit.REFUSED);
+      Kit.due("module " + i, Kit.load(e, modules[i]), i);
+    }
+    Kit.due("refused", Kit.load(e, Kit.module(77)), -1);
     return e;
   }
 

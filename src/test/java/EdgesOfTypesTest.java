@@ -774,6 +774,19 @@ public final class EdgesOfTypesTest {
     at("of two values the second known, and not as wanted", 29, 7, 2, 2, 0, 65, 0, 65, 0, 14, 1, 0, 0, 11, 26, 26);
     at("what was taken is as it was for the next", 29, 9, 2, 2, 2, 2, 0, 65, 0, 65, 0, 14, 2, 0, 1, 0, 11, 0, 11, 26, 26);
     right("a 3 wants its parameters", 65, 0, 3, 1, 65, 0, 14, 1, 0, 0, 11, 26);
+    right("of two values the second known, above others", 65, 0, 2, 2, 0, 66, 0, 65, 0, 14, 2, 0, 0, 0, 11, 26, 26, 26);
+    byte[] head = Kit.bytes(Kit.section(1, 2, PLAIN, Kit.type(NO, new int[] {127, 126, 125, 124})), Kit.section(3, 1, 0));
+    byte[][] values = {Kit.constant(127, 0), Kit.constant(126, 0), Kit.constant(125, 0), Kit.constant(124, 0)};
+    for (int known = 0; known <= 4; known++) {
+      byte[] row = {};
+      for (int i = 4 - known; i < 4; i++) row = Kit.bytes(row, values[i]);
+      byte[] body = Kit.body(66, 0, 66, 0, 2, 1, 66, 0, 66, 0, 66, 0, 66, 0, 0, row, 65, 0, 14, 3, 0, 0, 0, 0, 11, 26, 26, 26, 26, 26, 26);
+      Kit.fault("the last " + known + " of four known", m(head, Kit.section(10, 1, body)));
+      if (known < 2) continue;
+      byte[] other = Kit.bytes(values[0], row);
+      byte[] wrong = Kit.body(0, 2, 1, 0, Arrays.copyOfRange(other, 0, other.length - 9), 65, 0, 14, 3, 0, 0, 0, 0, 11, 26, 26, 26, 26);
+      Kit.fault("known, but not so", m(head, Kit.section(10, 1, wrong)), 29, 8 + head.length + 5 + 4 + other.length - 9 + 2);
+    }
   }
 
   /** 27: 127, then two numbers (124 .. 127) of the same type, or not KNOWN, puts what is known of them. */

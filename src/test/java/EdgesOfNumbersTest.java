@@ -179,6 +179,27 @@ public final class EdgesOfNumbersTest {
   /** Those of 32 as its lowest ones (the others are 0 when told, and not looked at when given). */
   private static void bitsNotLookedAt() {
     long high = 0x1234567800000000L;
+    for (int op = 69; op <= 1007; op++) {
+      if (op == 197) op = 1000;
+      String types = Reference.Ops.signature(op);
+      char type = types.charAt(0);
+      if (type == 'l' || type == 'd') continue;
+      long[] some = type == 'i' ? new long[] {0, 3, 0x7fffffffL, 0x80000000L, 0xffffffffL} : new long[] {0, SIGN, f(1), f(-2.5f), INFINITE, NONE, f(3e9f)};
+      ModuleEngine e = engine(op, op % 2);
+      for (long x : some) {
+        for (long y : types.length() == 3 ? some : new long[1]) {
+          long want = 0;
+          int trap = 0;
+          try {
+            want = Reference.Ops.eval(op, x, y);
+          } catch (Reference.Trap t) {
+            trap = t.code;
+          }
+          check(e, op, x | high, y | ~high << 32 >>> 32 << 32, types.length() == 3, want, trap);
+          check(e, op, x | -1L << 32, y | high, types.length() == 3, want, trap);
+        }
+      }
+    }
     gives(69, high, 1);
     gives(70, high | 5, 5, 1);
     gives(73, high | 5, 6, 1);

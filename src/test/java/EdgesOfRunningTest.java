@@ -45,6 +45,7 @@ public final class EdgesOfRunningTest {
     changingOverPerFunction();
     changingOverUncounted();
     asked();
+    askedWithSixteen();
     deadCode();
     ahead();
     operandsBelow();
@@ -896,12 +897,18 @@ public final class EdgesOfRunningTest {
     Kit.due("of which this is one", e.state(11), 3);
     Kit.run(e, 0, 0);
     Kit.due("and the first of the first", e.state(11), 4);
-    e = Kit.engine(Kit.simple(NO, NO, Kit.times(4200, 1)));
-    e.tier(1);
-    e.call(0, 0);
-    Kit.due("whether there is room for its code or not", e.state(11), 1);
-    Kit.due("its steps", e.run(100000), 4200);
-    Kit.due("it has ended", e.state(0), 2);
+    for (int n : new int[] {1000, 4094, 4095, 4096, 4097, 8000}) {
+      byte[][] codes = {Kit.times(n, 1), Kit.bytes(Kit.times(n / 2, 65, 1), Kit.times(n / 2, 26)), Kit.times(n / 4, 65, 1, 4, 64, 1, 11, 1)};
+      for (int c = 0; c < 3; c++) {
+        if (c == 1 && n > 2000) continue;
+        e = Kit.engine(Kit.simple(NO, NO, codes[c]));
+        e.tier(1);
+        e.call(0, 0);
+        Kit.due("whether there is room for its code or not: " + n, e.state(11), 1);
+        Kit.due("its steps", e.run(100000), c == 0 ? n : c == 1 ? n / 2 * 2 : n / 4 * 4);
+        Kit.due("it has ended", e.state(0), 2);
+      }
+    }
   }
 
   /** Where no frame is made none is counted: by a call that EXHAUSTS, and for HOST's functions. */
@@ -960,6 +967,40 @@ public final class EdgesOfRunningTest {
         for (int i = 0; i < 6; i++) Kit.due("result " + i, e.value(i), i < 4 ? told[i] - 1 : -1);
         Kit.due("no more", e.value(6), 0);
         Kit.due("no steps by that", e.state(2), k == 0 ? 8 : 0);
+      }
+    }
+  }
+
+  /** With 16 parameters and 16 results, the most there may be. */
+  private static void askedWithSixteen() {
+    int[] kinds = {127, 126, 125, 124, 112, 111, 127, 126, 125, 124, 112, 111, 127, 126, 125, 124};
+    byte[] all = {};
+    for (int i = 0; i < 16; i++) all = Kit.bytes(all, 32, i);
+    byte[] m = Kit.module(Kit.section(1, 1, Kit.type(kinds, kinds)), Kit.section(2, 1, "", "", 0, 0), Kit.section(3, 1, 0), Kit.section(7, 2, "f", 0, 1, "h", 0, 0),
+      Kit.section(10, 1, Kit.body(all, 16, 0, 16, 0)));
+    for (int tier = 0; tier < 2; tier++) {
+      ModuleEngine e = new ModuleEngine();
+      Kit.load(e, m);
+      e.offer(-1, 63);
+      e.make(0);
+      e.tier(tier);
+      for (int k = 0; k < 2; k++) {
+        for (int i = 0; i < 16; i++) e.argument(kinds[i] < 124 ? i % 2 : 100 + i);
+        Kit.due("call", e.call(0, k), true);
+        e.run(100);
+        for (int i = 0; i < 16; i++) Kit.due("argument " + i, e.value(i), kinds[i] < 124 ? i % 2 : 100 + i);
+        Kit.due("no argument 16", e.value(16), 0);
+        for (int turn = k; turn < 2; turn++) {
+          for (int i = 0; i < 15; i++) Kit.due("none are left", e.argument(kinds[i] < 124 ? -1 : 200 + turn + i), i + 1);
+          Kit.due("15 are too few", e.answer(), false);
+          Kit.due("16", e.argument(215 + turn), 16);
+          Kit.due("17", e.argument(1), -1);
+          Kit.due("answered", e.answer(), true);
+          e.run(100);
+        }
+        Kit.due("ended", e.state(0), 2);
+        for (int i = 0; i < 16; i++) Kit.due("result " + i, e.value(i), kinds[i] < 124 ? -1 : 201 + i);
+        Kit.due("no result 16", e.value(16), 0);
       }
     }
   }

@@ -57,6 +57,7 @@ public final class EdgesOfTypesTest {
     callsByTable();
     parameters();
     bodiesInOrder();
+    takenAndPut();
     Kit.finish();
   }
 
@@ -316,6 +317,8 @@ public final class EdgesOfTypesTest {
     Kit.fault("none", m(head, uses), 30, at);
     Kit.fault("one to start is not", m(head, start, uses), 30, at + start.length);
     Kit.fault("an export of another kind is not", m(head, otherExport, uses), 30, at + otherExport.length);
+    byte[] usesZero = Kit.section(10, 3, Kit.body(210, 0, 26), Kit.body(), Kit.body());
+    Kit.fault("nor one of the same number", m(head, otherExport, usesZero), 30, at + otherExport.length);
     byte[] other = Kit.section(9, 1, 1, 0, 2, 0, 1);
     Kit.fault("others are", m(head, other, uses), 30, at + other.length);
     byte[] itself = Kit.section(10, 3, Kit.body(16, 2), Kit.body(), Kit.body(210, 2, 26));
@@ -849,5 +852,82 @@ public final class EdgesOfTypesTest {
     Kit.fault("its first instruction", m(head, Kit.section(10, 3, Kit.body(26, 12, 9), Kit.body(32, 0), Kit.body())), 29, at + 2);
     Kit.fault("locals of one are not of the next", m(head, Kit.section(10, 3, Kit.bodyWith(Kit.bytes(1, 3, 127)), Kit.body(32, 0), Kit.body(32, 0, 26))), 30,
       at + 5 + 5 + 2);
+  }
+
+  /** An instruction with what it takes, the last one said last, and what it puts, by the numbers of locals of these types. */
+  private static void signature(byte[] instruction, int[] takes, int... puts) {
+    String what = "instruction " + (instruction[0] & 255) + (instruction[0] == (byte) 252 ? " " + instruction[1] : "");
+    byte[] in = {};
+    for (int t : takes) in = Kit.bytes(in, 32, t);
+    byte[] out = {};
+    for (int i = puts.length - 1; i >= 0; i--) out = Kit.bytes(out, 33, puts[i]);
+    right(what, in, instruction, out);
+    right(what + " in the dead", 0, instruction, out);
+    for (int i = 0; i < takes.length; i++) {
+      for (int other = 0; other < 6; other++) {
+        if (other == takes[i]) continue;
+        byte[] wrong = in.clone();
+        wrong[2 * i + 1] = (byte) other;
+        at(what + " with another operand " + i, 29, in.length, wrong, instruction, out);
+        at(what + " with another operand " + i + " in the dead", 29, 1 + in.length, 0, wrong, instruction, out);
+      }
+    }
+    if (takes.length > 0) at(what + " with one too few", 29, in.length - 2, Arrays.copyOfRange(in, 2, in.length), instruction, out);
+    if (puts.length == 0) {
+      at(what + " puts nothing", 29, in.length + instruction.length, in, instruction, 26);
+      return;
+    }
+    for (int other = 0; other < 6; other++) {
+      if (other == puts[puts.length - 1]) continue;
+      at(what + " puts its own type", 29, in.length + instruction.length, in, instruction, 33, other);
+      at(what + " puts its own type in the dead", 29, 1 + instruction.length, 0, instruction, 33, other);
+    }
+    at(what + " puts no more", 29, in.length + instruction.length + 2 * puts.length, in, instruction, out, 26);
+  }
+
+  private static int[] row(int... locals) { return locals; }
+
+  /** What each instruction takes and puts, by its types (the operators of Part III are in TypesTest). */
+  private static void takenAndPut() {
+    int[] kinds = {0, 1, 2, 3, 0, 0, 0, 0, 1, 1, 1, 1, 1, 1, 0, 1, 2, 3, 0, 0, 1, 1, 1};
+    for (int op = 40; op < 54; op++) signature(Kit.bytes(op, 0, 0), row(0), kinds[op - 40]);
+    for (int op = 54; op < 63; op++) signature(Kit.bytes(op, 0, 0), row(0, kinds[op - 40]));
+    signature(Kit.bytes(63, 0), row(), 0);
+    signature(Kit.bytes(64, 0), row(0), 0);
+    signature(Kit.bytes(65, 0), row(), 0);
+    signature(Kit.bytes(66, 0), row(), 1);
+    signature(Kit.bytes(67, new int[4]), row(), 2);
+    signature(Kit.bytes(68, new int[8]), row(), 3);
+    signature(Kit.bytes(208, 112), row(), 4);
+    signature(Kit.bytes(208, 111), row(), 5);
+    signature(Kit.bytes(210, 1), row(), 4);
+    for (int i = 0; i < 6; i++) {
+      signature(Kit.bytes(32, i), row(), i);
+      signature(Kit.bytes(33, i), row(i));
+      signature(Kit.bytes(34, i), row(i), i);
+      signature(Kit.bytes(28, 1, i < 4 ? 127 - i : 116 - i), row(i, i, 0), i);
+    }
+    signature(Kit.bytes(35, 0), row(), 0);
+    signature(Kit.bytes(35, 2), row(), 3);
+    signature(Kit.bytes(36, 1), row(0));
+    for (int t = 0; t < 2; t++) {
+      signature(Kit.bytes(37, t), row(0), 4 + t);
+      signature(Kit.bytes(38, t), row(0, 4 + t));
+      signature(Kit.bytes(252, 15, t), row(4 + t, 0), 0);
+      signature(Kit.bytes(252, 16, t), row(), 0);
+      signature(Kit.bytes(252, 17, t), row(0, 4 + t, 0));
+      signature(Kit.bytes(252, 12, t, t), row(0, 0, 0));
+      signature(Kit.bytes(252, 14, t, t), row(0, 0, 0));
+      signature(Kit.bytes(252, 13, t), row());
+      signature(Kit.bytes(252, 8, t, 0), row(0, 0, 0));
+      signature(Kit.bytes(252, 9, t), row());
+    }
+    signature(Kit.bytes(252, 10, 0, 0), row(0, 0, 0));
+    signature(Kit.bytes(252, 11, 0), row(0, 0, 0));
+    signature(Kit.bytes(16, 0), row(0), 0);
+    signature(Kit.bytes(16, 1), row());
+    signature(Kit.bytes(17, 1, 0), row(0, 0), 0);
+    signature(Kit.bytes(17, 2, 0), row(0), 0, 1);
+    signature(Kit.bytes(1), row());
   }
 }

@@ -39,6 +39,7 @@ public final class EdgesOfStoreTest {
     startOrNone();
     argumentsStay();
     copiedToImports();
+    lastNumbers();
     Kit.finish();
   }
 
@@ -721,5 +722,44 @@ public final class EdgesOfStoreTest {
     e.offer(0, 2);
     Kit.due("as large as it is now", e.make(2), 4);
     Kit.due("which is large enough", e.state(0), 2);
+  }
+
+  /** 64 that are imported, and as many others as the store has room for: the last of each is used. */
+  private static void lastNumbers() {
+    byte[] first = Kit.module(Kit.section(1, 1, Kit.type(NO, INT)), Kit.section(3, 1, 0), Kit.section(4, 1, 111, 0, 1), Kit.section(6, 1, 127, 1, 65, 5, 11),
+      Kit.section(7, 3, "f", 0, 0, "t", 1, 0, "g", 3, 0), Kit.section(10, 1, Kit.body(65, 6)));
+    byte[] functions = Kit.module(Kit.section(1, 1, Kit.type(NO, INT)), Kit.section(2, 64L, Kit.times(64, "", "", 0, 0)), Kit.section(3, 64L, Kit.times(64, 0)),
+      Kit.section(4, 1, 112, 0, 2), Kit.section(7, 3, "a", 0, 127L, "b", 0, 126L, "t", 1, 0), Kit.section(9, 1, 4, 65, 1, 11, 1, 210, 127L, 11),
+      Kit.section(10, 64L, Kit.times(61, Kit.body(0)), Kit.body(65, 41), Kit.body(16, 63, 16, 125L, 106), Kit.body(65, 7)));
+    byte[] tables = Kit.module(Kit.section(1, 1, Kit.type(INT, INT)), Kit.section(2, 64L, Kit.times(64, "", "", 1, 111, 0, 0)), Kit.section(3, 1, 0),
+      Kit.section(4, 30L, Kit.times(29, 111, 0, 1), 112, 0, 3), Kit.section(7, 2, "f", 0, 0, "t", 1, 93),
+      Kit.section(9, 1, 2, 93, 65, 2, 11, 0, 1, 0), Kit.section(10, 1, Kit.body(32, 0, 210, 0, 38, 93, 32, 0, 37, 93, 209, 252, 16, 93, 106)));
+    byte[] globals = Kit.module(Kit.section(1, 1, Kit.type(INT, INT)), Kit.section(2, 64L, Kit.times(64, "", "", 3, 127, 1)), Kit.section(3, 1, 0),
+      Kit.section(6, 64L, Kit.times(63, 127, 0, 65, 0, 11), 127, 1, 65, 9, 11), Kit.section(7, 2, "f", 0, 0, "g", 3, 127L),
+      Kit.section(10, 1, Kit.body(35, 127L, 35, 63, 106, 32, 0, 36, 127L, 32, 0, 36, 63)));
+    for (int tier = 0; tier < 2; tier++) {
+      ModuleEngine e = loaded(first, functions, tables, globals);
+      e.tier(tier);
+      e.make(0);
+      int[] exports = {0, 1, 2};
+      for (int module = 1; module < 4; module++) {
+        for (int i = 1; i <= 64; i++) Kit.due("offer", e.offer(0, exports[module - 1]), i);
+        Kit.due("instance", e.make(module), module);
+      }
+      Kit.due("functions", e.state(7), 1 + 64 + 1 + 1);
+      Kit.run(e, 1, 0);
+      Kit.due("function 127", e.value(0), 7);
+      Kit.run(e, 1, 1);
+      Kit.due("function 126, which calls 63 and 125", e.value(0), 47);
+      Kit.due("function 127 in the table", e.table(1, 2, 1), 64);
+      Kit.due("table 93", e.table(2, 1, 2), 65);
+      Kit.run(e, 2, 0, 1);
+      Kit.due("its size, and no none in it", e.value(0), 3);
+      Kit.due("set", e.table(2, 1, 1), 65);
+      Kit.run(e, 3, 0, 33);
+      Kit.due("globals 127 and 63", e.value(0), 14);
+      Kit.due("global 127", e.global(3, 1), 33);
+      Kit.due("global 63 is the first one's", e.global(0, 2), 33);
+    }
   }
 }

@@ -58,6 +58,7 @@ public final class EdgesOfTypesTest {
     parameters();
     bodiesInOrder();
     takenAndPut();
+    lastNumbers();
     Kit.finish();
   }
 
@@ -929,5 +930,35 @@ public final class EdgesOfTypesTest {
     signature(Kit.bytes(17, 1, 0), row(0, 0), 0);
     signature(Kit.bytes(17, 2, 0), row(0), 0, 1);
     signature(Kit.bytes(1), row());
+  }
+
+  /** 64 that are imported and 64 that are not: the last of them has number 127, and 128 is not there. */
+  private static void lastNumbers() {
+    byte[] types = Kit.section(1, 64L, Kit.times(63, PLAIN), Kit.type(INT, INT));
+    byte[] functions = Kit.bytes(types, Kit.section(2, 64L, Kit.times(64, 0, 0, 0, 0)), Kit.section(3, 64L, Kit.times(63, 0), 63));
+    byte[] tables = Kit.bytes(Kit.section(1, 1, PLAIN), Kit.section(2, 64L, Kit.times(64, 0, 0, 1, 111, 0, 0)), Kit.section(3, 1, 0),
+      Kit.section(4, 64L, Kit.times(63, 111, 0, 0), 112, 0, 0));
+    byte[] globals = Kit.bytes(Kit.section(1, 1, PLAIN), Kit.section(2, 64L, Kit.times(63, 0, 0, 3, 126, 0), 0, 0, 3, 125, 0), Kit.section(3, 1, 0),
+      Kit.section(6, 64L, Kit.times(63, 126, 0, 35, 62, 11), 125, 1, 35, 63, 11));
+    for (long n : new long[] {126, 127, 128, 129}) {
+      boolean there = n < 128;
+      byte[] last = Kit.body(32, 0);
+      byte[] bodies = Kit.bytes(Kit.times(62, 2, 0, 11), Kit.body(0, 16, n, 0, 210, n, 26), last);
+      byte[] exports = Kit.section(7, 2, "a", 0, 126L, "b", 0, 127L);
+      byte[] module = m(functions, exports, Kit.section(10, 64L, bodies));
+      Kit.fault("16 and 210 of function " + n, module, there ? 0 : 30, 8 + functions.length + exports.length + 4 + 62 * 3 + 3);
+      Kit.fault("an export of function " + n, m(functions, Kit.section(7, 1, "a", 0, n), Kit.section(10, 64L, Kit.times(63, 2, 0, 11), last)), there ? 0 : 24, 8 + functions.length);
+      Kit.fault("an element of function " + n, m(functions, Kit.section(9, 1, 1, 0, 1, n), Kit.section(10, 64L, Kit.times(63, 2, 0, 11), last)), there ? 0 : 28,
+        8 + functions.length);
+      byte[][] uses = {Kit.bytes(0, 37, n, 26), Kit.bytes(0, 38, n), Kit.bytes(0, 252, 15, n, 26), Kit.bytes(0, 252, 16, n, 26), Kit.bytes(0, 252, 17, n),
+        Kit.bytes(0, 252, 14, n, n)};
+      for (byte[] use : uses) Kit.fault("table " + n, m(tables, Kit.section(10, 1, Kit.body(use))), there ? 0 : 30, 8 + tables.length + 6);
+      Kit.fault("17 by table " + n, m(tables, Kit.section(10, 1, Kit.body(0, 17, 0, n))), n == 127 ? 0 : 30, 8 + tables.length + 6);
+      Kit.fault("an element to table " + n, m(tables, Kit.section(9, 1, 2, n, 65, 0, 11, 0, 0), Kit.section(10, 1, Kit.body())), n == 127 ? 0 : 28, 8 + tables.length);
+      Kit.fault("35 of global " + n, m(globals, Kit.section(10, 1, Kit.body(0, 35, n, 26))), there ? 0 : 30, 8 + globals.length + 6);
+      Kit.fault("36 of global " + n, m(globals, Kit.section(10, 1, Kit.body(0, 36, n))), n == 127 ? 0 : 30, 8 + globals.length + 6);
+    }
+    Kit.fault("the type of global 127", m(globals, Kit.section(10, 1, Kit.body(67, new int[4], 36, 127L))));
+    Kit.fault("the type of global 127, not another", m(globals, Kit.section(10, 1, Kit.body(66, 0, 36, 127L))), 29, 8 + globals.length + 7);
   }
 }
